@@ -1046,6 +1046,9 @@ public final class DunkedBiscuits {
         }
 
         int addBiscuit(int kind, int cells, int a) {
+            if (!hasRoom()) {
+                return NONE;
+            }
             biscuits[count].becomeNew(kind, cells, a);
             count++;
             return count - 1;
@@ -1062,7 +1065,10 @@ public final class DunkedBiscuits {
         int worthOfCells(Biscuit biscuit) {
             int sum = 0;
             for (int cell = 0; cell < biscuit.cells; cell++) {
-                sum += worths[biscuit.wets[cell] / 10];
+                int w = biscuit.wets[cell] / 10;
+                if (isWithin(w, 0, WORTHS - 1)) {
+                    sum += worths[w];
+                }
             }
             return sum;
         }
@@ -1078,6 +1084,9 @@ public final class DunkedBiscuits {
         }
 
         int dipInTruth(int biscuit, int d, int s, Dunk dunk) {
+            if (!hasBiscuit(biscuit)) {
+                return 0;
+            }
             dunk.begin(biscuits[biscuit], heat);
             dunk.stay(d, s);
             biscuits[biscuit].become(dunk.biscuit);
@@ -1088,6 +1097,9 @@ public final class DunkedBiscuits {
         }
 
         int carryInTruth(int biscuit, int c, Dunk dunk) {
+            if (!hasBiscuit(biscuit)) {
+                return 0;
+            }
             dunk.begin(biscuits[biscuit], heat);
             dunk.stay(0, c);
             biscuits[biscuit].become(dunk.biscuit);
@@ -1096,6 +1108,9 @@ public final class DunkedBiscuits {
         }
 
         int eat(int biscuit) {
+            if (!hasBiscuit(biscuit)) {
+                return 0;
+            }
             int worth = worthOfCells(biscuits[biscuit]);
             pleasure += worth;
             biscuits[biscuit].cells = 0;

@@ -27,6 +27,7 @@ public final class DunksTest {
         goes();
         goesBroken();
         plate();
+        plateOfFive();
         plateHeat();
         plateRefused();
         rule();
@@ -123,6 +124,8 @@ public final class DunksTest {
         due("just as much", one(0, 2, 0, 99, 55).breaks(0), -1);
         due("more", one(0, 2, 0, 99, 56).breaks(0), 1);
         due("not at 0", one(0, 1, 0, 99).breaks(0), -1);
+        due("a twentieth, cut: 4", one(0, 2, 0, 80, 56).breaks(0), 1);
+        due("a twentieth, cut: 3", one(0, 2, 0, 79, 56).breaks(0), -1);
         due("the lowest", one(0, 4, 0, 0, 0, 99, 99).breaks(0), 2);
         due("pair holds 40 more", one(5, 2, 0, 99, 95).breaks(0), -1);
         due("pair", one(5, 2, 0, 99, 96).breaks(0), 1);
@@ -228,6 +231,11 @@ public final class DunksTest {
         due("left behind 8", x.left(0, 2, 8, 0), 2);
         due("left behind 9", x.left(0, 2, 9, 0), 1);
         due("dry", x.longest(0, 0, 60), 60);
+        // SOAK 1: CELL 0 is 60 wet, and so hangs by 4, behind 60 SECONDS; the other holds 3 and hardly creeps
+        DunkedBiscuits z = one(0, 2, 0, 0, 57);
+        z.ask(0, 0);
+        due("breaks in the last second", z.when(0, 1, 60, 0), 60);
+        due("59", z.longest(0, 1, 0), 59);
         due("one cell", one(0, 1, 9).longest(0, 1, 60), 60);
         DunkedBiscuits y = one(0, 2, 0, 99, 56);
         due("without a carry", y.longest(0, 0, 0), 0);
@@ -369,6 +377,22 @@ public final class DunksTest {
         due("first", x.plate(1, 5, 5, 0), 1);
         due("second", x.plate(1, 5, 5, 1), 2);
         due("third", x.plate(1, 5, 5, 2), 0);
+    }
+
+    /** The worth of each at each place grows so that the last order of all has most. */
+    private static void plateOfFive() {
+        DunkedBiscuits x = new DunkedBiscuits();
+        x.ask(0, 99);
+        x.ask(1, 1);
+        for (int b = 0; b < 5; b++) {
+            x.biscuit(0, 1, b);
+        }
+        // SOAK 10 and b less the place, 5 SECONDS: 70, 60, 50, 40, 30; 10 wetter is worth thrice as much
+        worths(x, 0, 0, 0, 1, 3, 9, 27, 81, 0, 0);
+        due("most", x.plate(1, 5, 5, -1), 81 + 27 + 9 + 3 + 1);
+        for (int i = 0; i < 5; i++) {
+            due("place " + i, x.plate(1, 5, 5, i), 4 - i);
+        }
     }
 
     private static void plateHeat() {

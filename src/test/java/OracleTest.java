@@ -8,11 +8,15 @@ import java.util.Random;
 public final class OracleTest {
     private static final int RUNS = 400;
     private static final int CALLS = 512;
+    private static final int PLATES = 300;
     private static int wrong = 0;
 
     public static void main(String[] args) {
         for (int run = 0; run < RUNS && wrong < 10; run++) {
             new Run(run).go();
+        }
+        for (int run = 0; run < PLATES && wrong < 10; run++) {
+            new Run(-1 - run).plate();
         }
         System.out.println(wrong == 0 ? "the model answers likewise" : wrong + " answers differ from the model");
         if (wrong != 0) {
@@ -1076,6 +1080,29 @@ public final class OracleTest {
                 }
             }
             looks();
+        }
+
+        /** Five biscuits of few cells and a cup that loses fast: the order tells. */
+        void plate() {
+            for (int b = 0; b < 5; b++) {
+                int kind = r.nextInt(7);
+                int cells = 1 + r.nextInt(3);
+                int a = r.nextInt(10);
+                due("biscuit", x.biscuit(kind, cells, a), m.biscuit(kind, cells, a));
+            }
+            for (int w = 0; w < 10; w++) {
+                int v = r.nextInt(100);
+                due("worthOf", x.worthOf(w, v), m.worthOf(w, v));
+            }
+            int loss = 1 + r.nextInt(4);
+            due("ask", x.ask(0, 99), m.ask(0, 99));
+            due("ask", x.ask(1, loss), m.ask(1, loss));
+            int d = 1 + r.nextInt(3);
+            int s = 1 + r.nextInt(9);
+            int c = r.nextInt(20);
+            for (int i = -1; i < 6; i++) {
+                due("plate " + d + " " + s + " " + c + " " + i, x.plate(d, s, c, i), m.plate(d, s, c, i));
+            }
         }
 
         void looks() {

@@ -60,10 +60,12 @@ public final class ShelvesTest {
         due("nothing changed", x.holds(0), -1);
         due("row of 160", x.row(0, 0, 160), 1);
         due("the last one", x.set(0, 159, 5), 1);
+        due("the first one", x.set(0, 0, 5), 1);
         due("row of 0", x.row(7, 3, 0), 1);
         due("no first one", x.set(7, 0, 5), -5);
         due("a new row", x.row(0, 2, 160), 1);
         due("is of 0", x.element(0, 159), 0);
+        due("is of 0", x.element(0, 0), 0);
         due("of its own sort", x.holds(0), 102);
         x.biscuit(0, 1, 0);
         x.show(3, 0);

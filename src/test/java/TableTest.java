@@ -162,6 +162,8 @@ public final class TableTest {
         due("worth", x.worthOf(0, 0), 1);
         items(x, "biscuit 0 1 0;biscuit 0 1 0;biscuit 0 1 0;biscuit 0 1 0;biscuit 0 1 0", 5);
         due("how many", x.status(0), 6);
+        items(x, "worth 1 99", 1);
+        due("worth", x.worthOf(1, 0), 99);
         due("160 elements", tell(x, 2, "heat 1;".repeat(22) + "heat 2"), 23);
         due("the last one", x.status(2), 2);
     }
@@ -174,7 +176,7 @@ public final class TableTest {
         due("heat", x.status(2), 59);
         due("seconds", x.status(7), 3);
         due("wet", x.biscuitOf(0, 3), 42);
-        items(x, "dip 0 0 0;heat 50;dip 0 1 1", 3);
+        items(x, "dip 0 0 0;dip 0 12 0;heat 50;dip 0 1 1", 4);
         due("by the heat told ahead", x.biscuitOf(0, 10), 27);
         due("seconds", x.status(7), 4);
         due("heat", x.status(2), 49);

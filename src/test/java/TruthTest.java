@@ -306,12 +306,15 @@ public final class TruthTest {
         x.worthOf(2, 22);
         x.seed(5);
         x.dip(0, 2, 3);
+        x.worthOf(0, 3);
+        x.biscuit(0, 1, 0);
+        x.eats(1);
         int[] was = new int[9];
         for (int what = 0; what < 9; what++) {
             was[what] = x.status(what);
         }
         int wet = x.biscuitOf(0, 10);
-        due("image", x.image(), 1);
+        due("image", x.image(), 2);
         for (int round = 0; round < 2; round++) {
             x.biscuit(0, 7, 0);
             x.wet(0, 0, 99);
@@ -323,7 +326,7 @@ public final class TruthTest {
             x.teas(5);
             x.biscuit(0, 7, 0);
             x.dip(x.status(0) - 1, 3, 60);
-            due("restore", x.restore(), 1);
+            due("restore", x.restore(), 2);
             for (int what = 0; what < 9; what++) {
                 due("status " + what, x.status(what), was[what]);
             }
@@ -334,9 +337,9 @@ public final class TruthTest {
             due("worth", x.worthOf(2, 9), 22);
         }
         x.biscuit(1, 1, 1);
-        due("a second image", x.image(), 2);
+        due("a second image", x.image(), 3);
         x.biscuit(1, 1, 1);
-        due("is the one", x.restore(), 2);
+        due("is the one", x.restore(), 3);
         due("with its worths", x.worthOf(2, 9), 9);
     }
 
