@@ -823,10 +823,13 @@ public final class DunkedBiscuits {
 
         boolean isOf(int wanted) {
             int above = kind;
-            while (above >= 0 && above < KINDS && above != wanted) {
+            for (int step = 0; step < KINDS && above >= 0 && above < KINDS; step++) {
+                if (above == wanted) {
+                    return true;
+                }
                 above = ABOVE[above];
             }
-            return above == wanted;
+            return false;
         }
 
         int wetOfAll() {
@@ -1412,12 +1415,9 @@ public final class DunkedBiscuits {
         int bodies;
 
         /** Runs the body of a kind, or of the next above it that has one. */
-        static int run(Act act, int what, int from, int x, int depth) {
-            int owner = from;
-            while (owner > BISCUIT && owner < KINDS && BODIES[owner * ACTS + what] == 0) {
-                owner = ABOVE[owner];
-            }
-            if (owner < BISCUIT || owner >= KINDS || depth > MOST_DEPTH) {
+        private static int run(Act act, int what, int from, int x, int depth) {
+            int owner = ownerOf(what, from);
+            if (owner == NONE || depth > MOST_DEPTH) {
                 return 0;
             }
             int body = BODIES[owner * ACTS + what];
@@ -1450,6 +1450,17 @@ public final class DunkedBiscuits {
                 default:
                     return 0;
             }
+        }
+
+        private static int ownerOf(int what, int from) {
+            int owner = from;
+            for (int step = 0; step < KINDS && isWithin(owner, 0, KINDS - 1) && isWithin(what, 0, ACTS - 1); step++) {
+                if (BODIES[owner * ACTS + what] != 0) {
+                    return owner;
+                }
+                owner = ABOVE[owner];
+            }
+            return NONE;
         }
 
         private void begins(int body) {
