@@ -6,8 +6,11 @@ import java.util.Random;
 
 /** Random calls on DunkedBiscuits beside a slow model of the document that goes second by second. */
 public final class OracleTest {
-    private static final int RUNS = 400;
-    private static final int CALLS = 512;
+    private static final int RUNS = 5000;
+    /** Behind so many calls no other is begun: a text takes up to 163, the looks at the end 40, 512 are promised. */
+    private static final int CALLS = 300;
+    private static final int PROMISED_CALLS = 512;
+    private static final int LOOKS = 40;
     private static final int PLATES = 300;
     private static int wrong = 0;
 
@@ -1073,13 +1076,16 @@ public final class OracleTest {
                 int v = r.nextInt(100);
                 due("worthOf " + i + " " + v, x.worthOf(i, v), m.worthOf(i, v));
             }
-            for (int call = 0; call < CALLS && wrong == 0; call++) {
+            while (said.size() < CALLS && wrong == 0) {
                 one();
-                for (int what = -1; what < 19; what++) {
-                    due("status " + what, x.status(what), m.status(what));
-                }
+                int what = r.nextInt(20) - 1;
+                due("status " + what, x.status(what), m.status(what));
             }
             looks();
+            if (said.size() > PROMISED_CALLS) {
+                wrong++;
+                System.out.println("run " + run + " has " + said.size() + " calls");
+            }
         }
 
         /** Five biscuits of few cells and a cup that loses fast: the order tells. */
@@ -1106,15 +1112,24 @@ public final class OracleTest {
         }
 
         void looks() {
-            for (int b = 0; b < 7; b++) {
-                for (int what = 0; what < 23; what++) {
-                    due("biscuitOf " + b + " " + what, x.biscuitOf(b, what), m.biscuitOf(b, what));
-                }
-            }
-            for (int s = -1; s < 9; s++) {
-                due("holds " + s, x.holds(s), m.holds(s));
-                for (int i = -1; i < 161; i++) {
-                    due("element " + s + " " + i, x.element(s, i), m.element(s, i));
+            for (int look = 0; look < LOOKS; look++) {
+                int b = r.nextInt(7);
+                int what = r.nextInt(23);
+                int s = r.nextInt(10) - 1;
+                int i = r.nextInt(4) == 0 ? r.nextInt(162) - 1 : r.nextInt(14) - 1;
+                switch (r.nextInt(4)) {
+                    case 0:
+                        due("biscuitOf " + b + " " + what, x.biscuitOf(b, what), m.biscuitOf(b, what));
+                        break;
+                    case 1:
+                        due("holds " + s, x.holds(s), m.holds(s));
+                        break;
+                    case 2:
+                        due("element " + s + " " + i, x.element(s, i), m.element(s, i));
+                        break;
+                    default:
+                        due("status " + (what - 2), x.status(what - 2), m.status(what - 2));
+                        break;
                 }
             }
         }
