@@ -221,13 +221,13 @@ public final class DunkedBiscuits {
         if (why != 0) {
             return refused(why);
         }
-        trial.become(now);
+        trial.takeOver(now);
         int items = reader.read(shelves[s]);
         latestFault = reader.fault;
         if (latestFault != NONE) {
             return refused(WRONG);
         }
-        now.become(trial);
+        now.takeOver(trial);
         return items;
     }
 
@@ -312,7 +312,7 @@ public final class DunkedBiscuits {
             if (s > 0) {
                 dunk.second();
             }
-            onward.become(dunk);
+            onward.goOnFrom(dunk);
             onward.stay(0, c);
             if (!onward.isWhole()) {
                 return s - 1;
@@ -540,7 +540,7 @@ public final class DunkedBiscuits {
     }
 
     public int image() {
-        imaged.become(now);
+        imaged.takeOver(now);
         hasImage = true;
         return now.count;
     }
@@ -549,7 +549,7 @@ public final class DunkedBiscuits {
         if (!hasImage) {
             return refused(WRONG);
         }
-        now.become(imaged);
+        now.takeOver(imaged);
         for (int s = 0; s < MOST_SHELVES; s++) {
             if (shelves[s].biscuit >= now.count) {
                 shelves[s].takeBiscuit(NONE);
@@ -702,7 +702,7 @@ public final class DunkedBiscuits {
             boolean changes = true;
             // A second that changes nothing leaves all longer dips with the worth of this one.
             for (int s = 0; s <= MOST_BEST_SECONDS && changes; s++) {
-                onward.become(dunk);
+                onward.goOnFrom(dunk);
                 onward.stay(0, c);
                 int worth = now.worthOfCells(onward.biscuit);
                 if (worth > most) {
@@ -944,7 +944,7 @@ public final class DunkedBiscuits {
             biscuit.dry();
         }
 
-        void become(Dunk other) {
+        void goOnFrom(Dunk other) {
             biscuit.become(other.biscuit);
             heat = other.heat;
             depth = other.depth;
@@ -1025,7 +1025,7 @@ public final class DunkedBiscuits {
             }
         }
 
-        void become(State other) {
+        void takeOver(State other) {
             for (int b = 0; b < MOST_BISCUITS; b++) {
                 biscuits[b].become(other.biscuits[b]);
             }
