@@ -179,7 +179,7 @@ public final class DunkedBiscuits {
     }
 
     public int wet(int biscuit, int cell, int v) {
-        if (!isCell(biscuit, cell)) {
+        if (!now.hasCellOf(biscuit, cell)) {
             return refused(NOBODY);
         }
         if (!isWithin(v, 0, MOST_WET)) {
@@ -238,14 +238,14 @@ public final class DunkedBiscuits {
     // ---- a biscuit as it is
 
     public int soak(int biscuit, int cell) {
-        if (!isCell(biscuit, cell)) {
+        if (!now.hasCellOf(biscuit, cell)) {
             return refused(NOBODY);
         }
         return now.biscuits[biscuit].soakOf(cell, now.heat);
     }
 
     public int cellOf(int biscuit, int cell, int what) {
-        if (!isCell(biscuit, cell)) {
+        if (!now.hasCellOf(biscuit, cell)) {
             return refused(NOBODY) - 1000;
         }
         if (what == 0) {
@@ -600,10 +600,6 @@ public final class DunkedBiscuits {
 
     private static boolean isShelf(int s) {
         return s >= 0 && s < MOST_SHELVES;
-    }
-
-    private boolean isCell(int biscuit, int cell) {
-        return now.hasBiscuit(biscuit) && now.biscuits[biscuit].hasCell(cell);
     }
 
     private static boolean mayBeDunk(int d, int s, int c) {
@@ -1044,6 +1040,10 @@ public final class DunkedBiscuits {
             return biscuit >= 0 && biscuit < count;
         }
 
+        boolean hasCellOf(int biscuit, int cell) {
+            return hasBiscuit(biscuit) && biscuits[biscuit].hasCell(cell);
+        }
+
         boolean hasRoom() {
             return count < MOST_BISCUITS;
         }
@@ -1358,7 +1358,7 @@ public final class DunkedBiscuits {
                         : i == 1 ? isWithin(number, 1, MOST_CELLS) : number <= MOST_A;
                 case TO_WET:
                     return i == 0 ? state.hasBiscuit(number)
-                        : i == 1 ? state.biscuits[numbers[0]].hasCell(number) : number <= MOST_WET;
+                        : i == 1 ? state.hasCellOf(numbers[0], number) : number <= MOST_WET;
                 case TO_HEAT:
                     return number <= MOST_HEAT;
                 case TO_LOSS:
@@ -1379,7 +1379,9 @@ public final class DunkedBiscuits {
                     state.addBiscuit(numbers[0], numbers[1], numbers[2]);
                     break;
                 case TO_WET:
-                    state.biscuits[numbers[0]].wets[numbers[1]] = numbers[2];
+                    if (state.hasCellOf(numbers[0], numbers[1])) {
+                        state.biscuits[numbers[0]].wets[numbers[1]] = numbers[2];
+                    }
                     break;
                 case TO_HEAT:
                     state.heat = numbers[0];
@@ -1391,7 +1393,9 @@ public final class DunkedBiscuits {
                     state.tea = numbers[0];
                     break;
                 default:
-                    state.worths[numbers[0]] = numbers[1];
+                    if (isWithin(numbers[0], 0, WORTHS - 1)) {
+                        state.worths[numbers[0]] = numbers[1];
+                    }
                     break;
             }
         }
